@@ -57,11 +57,11 @@ public final class AccountsTest {
         Due.is("below", x.over(0, -1), -4);
         Due.is("above", x.over(0, 100000), -6);
         Due.is("99999", x.over(0, 99999), 0);
-        Due.is("was 99999", x.over(0, 10), 99999);
+        Due.is("was 99999", x.over(0, 0), 99999);
+        Due.is("was 0", x.over(0, 10), 0);
         Due.is("accountOf 5", x.accountOf(0, 5), 10);
         x.close(1);
         Due.is("of a CLOSED one too", x.over(1, 3), 0);
-        x.line(0, 0, 1, 1, 0, 0);
     }
 
     private static void closes() {

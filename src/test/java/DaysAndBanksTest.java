@@ -66,6 +66,12 @@ public final class DaysAndBanksTest {
     }
 
     private static void working() {
+        SwitchSeven y = new SwitchSeven();
+        Due.is("day 0 may be a holiday", y.holiday(0), 1);
+        Due.is("told so", y.holiday(0), -3);
+        Due.is("day 0 is not WORKING then", y.isWorking(0), 0);
+        y.days(1);
+        Due.is("its NIGHT is not gone through", y.count(10), 0);
         SwitchSeven x = new SwitchSeven();
         Due.is("below 0", x.isWorking(-1), -4);
         Due.is("above 1500", x.isWorking(1501), -6);

@@ -9,6 +9,7 @@ public final class LinesTest {
         overdraft();
         closedAndOne();
         lastAndPull();
+        chargeOfTheOneThatPays();
         wage();
         good();
         goodIsHeld();
@@ -190,8 +191,43 @@ public final class LinesTest {
         Due.is("an ORDER from LAST always", x.lineOf(0, 3), 5);
         Due.is("a PULL as long as it is SENT ON", x.lineOf(1, 3), 2);
         Due.is("then WHY 3", x.lineOf(1, 6), 3);
+        Due.is("WHY 3 is not WHY 4", x.lineOf(1, 7), 0);
         Due.is("to one that is not SENT ON", x.lineOf(2, 6), 3);
         Due.is("from is as it was told", x.lineOf(0, 1), 0);
+    }
+
+    private static void chargeOfTheOneThatPays() {
+        SwitchSeven x = Due.withAccounts(2);
+        x.bank(0, 0, 7);
+        x.bank(2, 0, 50);
+        x.late(2, 1);
+        x.ask(0, 2, false);
+        x.days(11);
+        Due.is("MOVED on day 10", x.accountOf(0, 3), 10);
+        x.line(1, 0, 1, 5, 11, 90);
+        x.days(1);
+        Due.is("an ORDER is charged to LAST, and made good", x.sum(2), 0);
+        Due.is("by its BANK's FEE", x.accountOf(2, 6), 50);
+        Due.is("not to the one told", x.accountOf(0, 6), 0);
+        Due.rule(x, "1", 1, 14);
+        Due.rule(x, "f*10+w", 3, 14);
+        x.line(2, 0, 1, 5, 14, 90);
+        x.days(3);
+        Due.is("a PULL from one that is not SENT ON", x.lineOf(1, 6), 1);
+        Due.is("GOOD is of the one told", x.accountOf(0, 6), 73);
+        Due.is("it has it", x.sum(0), 73);
+        Due.is("not LAST", x.accountOf(2, 6), 50);
+        Due.is("OWED in all", x.owes(2), 123);
+        x.line(1, 2, 0, 5, 15, 90);
+        x.days(1);
+        Due.is("an ORDER to one that is not SENT ON", x.lineOf(2, 6), 1);
+        Due.is("GOOD is of the one from which", x.accountOf(2, 6), 50 + 503);
+        Due.rule(x, "99", 1, 16);
+        x.line(1, 2, 0, 5, 16, 90);
+        x.days(1);
+        Due.is("from and to are one", x.lineOf(3, 7), 1);
+        Due.is("that is not WHY 3", x.lineOf(3, 6), 0);
+        Due.is("w is 4", x.accountOf(2, 6), 50 + 503 + 504);
     }
 
     private static void wage() {

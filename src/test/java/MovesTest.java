@@ -6,7 +6,9 @@ public final class MovesTest {
         agrees();
         takesBack();
         told();
+        jointWithNameZero();
         lateAndCaps();
+        capOfTheOldBank();
         overdrawn();
         lettersOfOverdrawn();
         whole();
@@ -124,6 +126,35 @@ public final class MovesTest {
         for (int what = 0; what < 9; what++) {
             Due.is("at the end, " + what, x.moveOf(0, what), over[what]);
         }
+    }
+
+    private static void jointWithNameZero() {
+        SwitchSeven x = new SwitchSeven();
+        x.account(0, 5, 0);
+        x.ask(0, 1, false);
+        Due.is("the NAME 0 can agree", x.agree(0), 1);
+        Due.is("and be LIKE", x.like(0, 0), 2);
+    }
+
+    private static void capOfTheOldBank() {
+        SwitchSeven x = new SwitchSeven();
+        for (int i = 0; i < 3; i++) {
+            x.account(0, i, -1);
+            x.ask(i * 2, 1 + i, false);
+        }
+        x.bank(0, 1, 2);
+        x.days(2);
+        for (int i = 0; i < 3; i++) {
+            Due.is("two of three steps, " + i, x.moveOf(i, 2), i < 2 ? 1 : 0);
+        }
+        x.takeBack(0);
+        x.bank(0, 1, 1);
+        x.bank(2, 1, 1);
+        x.account(2, 9, -1);
+        x.ask(6, 3, false);
+        x.days(2);
+        Due.is("the old one of one is the new one of another: CAP is one for both", x.moveOf(1, 2), 3);
+        Due.is("so no step", x.moveOf(3, 2), 0);
     }
 
     private static void lateAndCaps() {

@@ -42,6 +42,10 @@ public final class NamesNetsAndSurgesTest {
         Due.is("rival: below", x.rival(0, -1, 0), -4);
         Due.is("rival: above", x.rival(0, 10000, 0), -6);
         Due.is("none", x.rivals(0, 5), 0);
+        Due.is("name 0", x.rivals(0, 0), 0);
+        Due.is("name 9999", x.rivals(0, 9999), 0);
+        Due.is("rival: name 0", x.rival(0, 0, 0), -9);
+        Due.is("rival: name 9999", x.rival(0, 9999, 0), -9);
         x.account(0, 1111, -1);
         x.account(1, 1112, -1);
         x.account(0, 1113, 1114);
@@ -145,6 +149,9 @@ public final class NamesNetsAndSurgesTest {
         }
         Due.is("nine days of 127 in eleven", x.least(), 104);
         Due.is("103 a day", x.tooLate(103), 10);
+        x.surge(3);
+        Due.is("a new SURGE has nothing of the old one", x.least(), 1);
+        Due.is("nor its days", x.tooLate(1), -9);
         x.surge(0);
         x.surge(5);
         x.surge(0);
