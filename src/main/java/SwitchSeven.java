@@ -3,6 +3,7 @@ import java.util.Arrays;
 
 /** Accounts that change banks in seven steps; the document's promises say what each call answers. */
 public final class SwitchSeven {
+    private static final int FINE = 0;
     private static final int NOBODY = -1;
     private static final int OTHER = -2;
     private static final int STATE = -3;
@@ -100,11 +101,9 @@ public final class SwitchSeven {
     // ---- days ----
 
     public int days(int n) {
-        if (n < 1) {
-            return refuse(BELOW);
-        }
-        if (n > LAST_DAY - calendar.today) {
-            return refuse(ROOM);
+        int no = outside(n, 1, LAST_DAY - calendar.today);
+        if (no != FINE) {
+            return refuse(no);
         }
         for (int i = 0; i < n; i++) {
             if (calendar.works(calendar.today)) {
@@ -133,11 +132,9 @@ public final class SwitchSeven {
     }
 
     public int isWorking(int day) {
-        if (day < 0) {
-            return refuse(BELOW);
-        }
-        if (day > LAST_DAY) {
-            return refuse(ROOM);
+        int no = outside(day, 0, LAST_DAY);
+        if (no != FINE) {
+            return refuse(no);
         }
         return calendar.works(day) ? 1 : 0;
     }
@@ -152,11 +149,9 @@ public final class SwitchSeven {
         if (what < 0 || what > 1) {
             return refuse(OTHER);
         }
-        if (v < 0) {
-            return refuse(BELOW);
-        }
-        if (v > (what == 0 ? MAX_FEE : MAX_CAP)) {
-            return refuse(ROOM);
+        int no = outside(v, 0, what == 0 ? MAX_FEE : MAX_CAP);
+        if (no != FINE) {
+            return refuse(no);
         }
         return what == 0 ? it.changeFee(v) : it.changeCap(v);
     }
@@ -211,11 +206,9 @@ public final class SwitchSeven {
         if (it.state != OPEN) {
             return refuseLong(STATE);
         }
-        if (n < 1) {
-            return refuseLong(BELOW);
-        }
-        if (n > MAX_PENCE) {
-            return refuseLong(ROOM);
+        int no = outside(n, 1, MAX_PENCE);
+        if (no != FINE) {
+            return refuseLong(no);
         }
         it.pence += n;
         return it.pence;
@@ -226,11 +219,9 @@ public final class SwitchSeven {
         if (it == null) {
             return refuse(NOBODY);
         }
-        if (n < 0) {
-            return refuse(BELOW);
-        }
-        if (n > MAX_PENCE) {
-            return refuse(ROOM);
+        int no = outside(n, 0, MAX_PENCE);
+        if (no != FINE) {
+            return refuse(no);
         }
         int before = it.overdraft;
         it.overdraft = n;
@@ -259,11 +250,9 @@ public final class SwitchSeven {
         if (it == null) {
             return refuseLong(NOBODY);
         }
-        if (day < 0) {
-            return refuseLong(BELOW);
-        }
-        if (day >= calendar.today) {
-            return refuseLong(ROOM);
+        int no = outside(day, 0, calendar.today - 1);
+        if (no != FINE) {
+            return refuseLong(no);
         }
         return it.keptSum(day);
     }
@@ -290,11 +279,9 @@ public final class SwitchSeven {
         if (it == null) {
             return refuse(NOBODY);
         }
-        if (day < 0) {
-            return refuse(BELOW);
-        }
-        if (day > LAST_DAY) {
-            return refuse(ROOM);
+        int no = outside(day, 0, LAST_DAY);
+        if (no != FINE) {
+            return refuse(no);
         }
         findRoutes(day);
         return it.route == null ? NONE : it.route.number;
@@ -457,11 +444,9 @@ public final class SwitchSeven {
         if (it == null) {
             return refuse(NOBODY);
         }
-        if (name < 0) {
-            return refuse(BELOW);
-        }
-        if (name > MAX_NAME) {
-            return refuse(ROOM);
+        int no = outside(name, 0, MAX_NAME);
+        if (no != FINE) {
+            return refuse(no);
         }
         return it.likeness(name);
     }
@@ -471,20 +456,11 @@ public final class SwitchSeven {
         if (it == null) {
             return refuse(NOBODY);
         }
-        if (name < 0) {
-            return refuse(BELOW);
+        int no = outside(name, 0, MAX_NAME);
+        if (no != FINE) {
+            return refuse(no);
         }
-        if (name > MAX_NAME) {
-            return refuse(ROOM);
-        }
-        int most = greatestLikeness(it, name);
-        int found = 0;
-        for (int i = 0; i < accounts.size(); i++) {
-            if (accounts.get(i).isRival(it, name, most)) {
-                found++;
-            }
-        }
-        return found;
+        return countRivals(it, name);
     }
 
     public int rival(int bank, int name, int i) {
@@ -492,23 +468,11 @@ public final class SwitchSeven {
         if (it == null) {
             return refuse(NOBODY);
         }
-        if (name < 0) {
-            return refuse(BELOW);
+        int no = outside(name, 0, MAX_NAME);
+        if (no != FINE) {
+            return refuse(no);
         }
-        if (name > MAX_NAME) {
-            return refuse(ROOM);
-        }
-        int most = greatestLikeness(it, name);
-        int found = 0;
-        for (int a = 0; a < accounts.size(); a++) {
-            if (accounts.get(a).isRival(it, name, most)) {
-                if (found == i) {
-                    return a;
-                }
-                found++;
-            }
-        }
-        return NONE;
+        return findRival(it, name, i);
     }
 
     // ---- nets that must agree ----
@@ -552,11 +516,9 @@ public final class SwitchSeven {
     }
 
     public int tooLate(int cap) {
-        if (cap < 0) {
-            return refuse(BELOW);
-        }
-        if (cap > MAX_TRIED_CAP) {
-            return refuse(ROOM);
+        int no = outside(cap, 0, MAX_TRIED_CAP);
+        if (no != FINE) {
+            return refuse(no);
         }
         int day = asks.firstDayTooLate(cap);
         asks.size = 0;
@@ -616,6 +578,11 @@ public final class SwitchSeven {
 
     private int refusalsCounted(int kind) {
         return kind >= 1 && kind <= REFUSAL_KINDS ? refusals[kind] : NONE;
+    }
+
+    /** The refusal of a number that is not within its bounds, or FINE. */
+    private static int outside(int v, int least, int most) {
+        return v < least ? BELOW : v > most ? ROOM : FINE;
     }
 
     private int refuse(int answer) {
@@ -708,6 +675,30 @@ public final class SwitchSeven {
             }
         }
         return most;
+    }
+
+    private int countRivals(Bank bank, int name) {
+        int most = greatestLikeness(bank, name);
+        int found = 0;
+        for (int i = 0; i < accounts.size(); i++) {
+            if (accounts.get(i).isRival(bank, name, most)) {
+                found++;
+            }
+        }
+        return found;
+    }
+
+    private int findRival(Bank bank, int name, int wanted) {
+        int most = greatestLikeness(bank, name);
+        int found = 0;
+        for (int i = 0; i < accounts.size(); i++) {
+            boolean isOne = accounts.get(i).isRival(bank, name, most);
+            if (isOne && found == wanted) {
+                return i;
+            }
+            found += isOne ? 1 : 0;
+        }
+        return NONE;
     }
 
     // ---- a night: its frame, then moves ----
