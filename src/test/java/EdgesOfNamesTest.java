@@ -24,6 +24,7 @@ public final class EdgesOfNamesTest {
         tooLateTwoDays();
         tooLateNone();
         tooLateEmpties();
+        countMost();
         countOther();
         countRefusals();
         Due.finish();
@@ -122,6 +123,8 @@ public final class EdgesOfNamesTest {
         Due.is("the new one is OPEN", x.rivals(1, 1111), 1);
         x.days(10);
         Due.is("a MOVED one is none: LIKE 1 is most then", x.rival(0, 1111, 0), 2);
+        SwitchSeven y = Due.withAccounts(1);
+        Due.is("ACCOUNT 0", y.rival(0, 0, 0), 0);
     }
 
     private static void rivalRefusals() {
@@ -365,6 +368,35 @@ public final class EdgesOfNamesTest {
         Due.is("none then, too", x.count(9), 0);
         Due.is("LEAST", x.least(), 0);
         Edge.fill("room for nine", i -> x.surge(0), 9, 1);
+    }
+
+    private static void countMost() {
+        Doc.says(34, "0 DAY, 1 ACCOUNTS, 2 those OPEN, 3 LINES not ENDED, 4 MOVES, 5 those that go on, 6 RULES,");
+        Doc.says(34, "7 bytes on THE TAPE, 8 longs of the row, 9 days of the SURGE, 10 NIGHTS gone through,");
+        SwitchSeven x = Due.withAccounts(10);
+        for (int i = 0; i < 30; i++) {
+            x.ask(i % 10, (i % 10 + 1) % 8, false);
+            Due.is("MOVES", x.count(4), i + 1);
+            Due.is("those that go on", x.count(5), i < 20 ? 1 : i - 19);
+            if (i < 20) {
+                x.takeBack(i);
+            }
+            Due.rule(x, "1", 0, 0);
+        }
+        for (int i = 0; i < 60; i++) {
+            x.line(1, 0, 1, 1, 1500, 1);
+        }
+        x.end(59);
+        Due.feed(x, "1".repeat(60));
+        for (int i = 0; i < 9; i++) {
+            x.surge(0);
+            x.tell(0);
+        }
+        x.days(1500);
+        int[] most = {1500, 40, 10, 59, 30, 0, 30, 60, 8, 9, 1072};
+        for (int what = 0; what < most.length; what++) {
+            Due.is("count(" + what + ")", x.count(what), most[what]);
+        }
     }
 
     private static void countOther() {

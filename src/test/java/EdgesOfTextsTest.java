@@ -26,6 +26,9 @@ public final class EdgesOfTextsTest {
         lettersOfSends();
         lettersOfOverdrawn();
         lettersOfGood();
+        lettersOfGoodByWhy();
+        lettersOfAnotherPurposeBefore();
+        notJoint();
         linesNotEnded();
         ruleOther();
         ruleGoneBy();
@@ -34,6 +37,7 @@ public final class EdgesOfTextsTest {
         ruleFaulty();
         ruleRefused();
         inForce();
+        thirtyInForce();
         withoutOne();
         Due.finish();
     }
@@ -404,6 +408,59 @@ public final class EdgesOfTextsTest {
         Due.is("of the new one", x.accountOf(4, 6), 5000 + 1200 + 50 + 1);
     }
 
+    private static void lettersOfGoodByWhy() {
+        Doc.says(0, "3 GOOD (b: the BANK of the ACCOUNT, n, f of that BANK, w)");
+        SwitchSeven x = Due.withAccounts(3);
+        x.close(2);
+        x.late(3, 1);
+        x.ask(0, 3, false);
+        x.days(11);
+        Due.rule(x, "w", 3, 11);
+        x.line(1, 0, 1, 5, 11, 90);
+        x.line(1, 0, 2, 5, 14, 90);
+        x.line(2, 0, 1, 5, 15, 90);
+        x.line(1, 0, 3, 5, 16, 90);
+        Due.rule(x, "0", 1, 15);
+        Due.rule(x, "99", 1, 16);
+        x.days(1);
+        Due.is("w is 1", x.accountOf(3, 6), 1);
+        x.days(3);
+        Due.is("w is 2", x.accountOf(3, 6), 3);
+        x.days(1);
+        Due.is("w is 3, of the one told", x.accountOf(0, 6), 3);
+        x.days(1);
+        Due.is("w is 4", x.accountOf(3, 6), 7);
+        Due.is("OWED in all", x.owes(3), 10);
+    }
+
+    private static void lettersOfAnotherPurposeBefore() {
+        Doc.says(0, "Those that a PURPOSE has not are 0.");
+        SwitchSeven x = givenGood("n*n+w", 1);
+        x.put(0, 20);
+        x.over(0, 30);
+        Due.rule(x, "(n+f+w+d=0)*(s>0)*(o>0)", 0, x.count(0));
+        Due.is("ASK behind GOOD", x.ask(0, 4, false), 1);
+        x.days(12);
+        Due.rule(x, "(s+o+j+l+n+f+w=0)*999", 1, x.count(0));
+        Due.is("SENDS behind ASK", x.sends(0, x.count(0)), 3);
+        x.put(3, 8);
+        Due.rule(x, "(d+n+f+w=0)*(s>0)", 0, x.count(0));
+        Due.is("ASK behind SENDS", x.ask(3, 5, false), 2);
+    }
+
+    private static void notJoint() {
+        Doc.says(0, "j 1 if it is JOINT");
+        String[] texts = {"(j=1)", "(j=0)"};
+        for (int i = 0; i < 2; i++) {
+            for (int joint = -1; joint <= 0; joint++) {
+                SwitchSeven x = new SwitchSeven();
+                x.account(0, 5, joint);
+                Due.rule(x, texts[i], 0, 0);
+                Due.is(texts[i] + ", JOINT with " + joint, x.ask(0, 1, false), joint + i == 0 ? 0 : -3);
+            }
+        }
+    }
+
     private static void linesNotEnded() {
         Doc.says(0, "l LINES (not ENDED) from it");
         SwitchSeven x = Due.withAccounts(2);
@@ -510,6 +567,26 @@ public final class EdgesOfTextsTest {
         Due.is("1500", x.sends(0, 1500), -9);
         Due.rule(x, "0", 0, 12);
         Due.is("another PURPOSE's", x.sends(0, 12), 1);
+    }
+
+    private static void thirtyInForce() {
+        Doc.says(0, "RULES (30 at most): a TEXT for a PURPOSE from a DAY on (now or later)");
+        SwitchSeven x = moved();
+        for (int i = 0; i < 30; i++) {
+            Due.is("RULE " + i, Due.rule(x, "1+2*3+(" + i + "-7)*1*1", 1, 10 + 2 * i), i + 1);
+        }
+        for (int i = 0; i < 30; i++) {
+            int behind = 1 + 2 * i;
+            Due.is("in force on day " + (10 + 2 * i), x.sends(0, 10 + 2 * i), behind <= i ? 1 : -9);
+        }
+        SwitchSeven y = moved();
+        for (int i = 0; i < 30; i++) {
+            int worth = i % 2 == 0 ? 1 + 2 * i : 2 * i;
+            Due.rule(y, "1*1*(2-1)*(3-2)*" + worth + "+0+0", 1, 10 + 2 * i);
+        }
+        for (int i = 0; i < 30; i++) {
+            Due.is("by its worth on day " + (10 + 2 * i), y.sends(0, 10 + 2 * i), i % 2 == 0 ? 1 : -9);
+        }
     }
 
     private static void withoutOne() {
